@@ -609,7 +609,6 @@ public final class NotationParser {
             state = SUM_DUE;
             depth = 0;
             links = 0;
-            primes = 0;
             dotsDue = false;
             for (int i = 0; i < tokens.size(); i++) {
                 if (!takes(tokens.kindOf(i))) {
@@ -834,6 +833,7 @@ public final class NotationParser {
             for (int i = 0; i < tokens.size(); i++) {
                 take(tokens.kindOf(i), tokens.detailOf(i));
             }
+            applyDownTo(SUM_LEVEL);
             endSum(NO_TOKEN);
         }
 
@@ -858,6 +858,7 @@ public final class NotationParser {
                 operators.pop();
                 primes.pop();
             } else if (startsSum(kind)) {
+                applyDownTo(SUM_LEVEL);
                 endSum(kind);
             }
             afterOperand = kind == NUMBER || kind == VARIABLE || kind == CLOSE;
@@ -869,7 +870,6 @@ public final class NotationParser {
         }
 
         private void endSum(int nextJoint) {
-            applyDownTo(SUM_LEVEL);
             tree.addSum(joint, operands.pop());
             joint = nextJoint;
         }
@@ -906,11 +906,13 @@ public final class NotationParser {
         }
 
         private int waitingLevel(int kind) {
-            if (isFunction(kind)) {
-                // A juxtaposition continues a wide argument, and ends a narrow one.
-                return wide ? TERM_LEVEL : PRODUCT_LEVEL;
-            }
             switch (kind) {
+                case ABS:
+                case SGN:
+                case SQR:
+                case DBL:
+                    // A juxtaposition continues a wide argument, and ends a narrow one.
+                    return wide ? TERM_LEVEL : PRODUCT_LEVEL;
                 case PLUS:
                 case MINUS:
                     return SUM_LEVEL;

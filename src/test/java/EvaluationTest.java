@@ -87,6 +87,8 @@ public final class EvaluationTest {
         succeeds("sqrsqr2x", 48, 48, 1296, 1296);
         succeeds("sqr x^2y", -162, -162, 324, 324);
         succeeds("sqr x^2*y", -162);
+        succeeds("100/5dblx", 120, 3, 120, 3);
+        succeeds("100/5sgny", -20, -20, -20, -20);
         succeeds("dblsqr2x+1", 25, 25, 73, 73);
     }
 

@@ -10,6 +10,7 @@ public final class TextTest {
         faults();
         faultsOfTokens();
         endsTooEarly();
+        checkingOneTextAfterAnother();
         accepting();
         deepTexts();
         DUE.end();
@@ -77,7 +78,9 @@ public final class TextTest {
             "2^3^4", "x^2^3y", "-x", "-2x-3", "(-x)", "x*(-y)", "x/y*z", "absx", "abs2", "abs'x", "abs'''x",
             "abs ' ' ' x", "sqrsqrx", "xsqr2", "x sqr 2 y", "x^sqr2", "sqr x^2", "x=-1", "x<y", "x>y",
             "x<=y", "x>=y", "x!=y", "x:-1..-2", "x:1..2<3", "1=2=3=4=5", "1:1..2:1..2:1..2:1..2",
-            "absabsabsabsx", "bs", "ab s x", "aabsx", "absgn", "((((x))))", "(x)(y)", "dbl(x)(y)^(z)"};
+            "absabsabsabsx", "bs", "ab s x", "aabsx", "absgn", "((((x))))", "(x)(y)", "dbl(x)(y)^(z)",
+            "xabs2", "xsgn2", "xsqr2", "xdbl2", "xbs", "axs", "abx", "ogn", "son", "sgo", "aqr", "sxr", "sqx",
+            "abl", "dxl", "dbx", "abs'''sgn'''sqr'''dbl'''x"};
         for (String text : texts) {
             DUE.same("syntaxError of " + text, Due.typed(text).syntaxError(), NotationParser.NOT_FOUND);
         }
@@ -95,7 +98,8 @@ public final class TextTest {
             {"(x=1)", 2}, {"(x:1..2)", 2}, {"x:(1..2)", 4}, {"x:1)..2", 3}, {"1=2=3=4=5=6", 9},
             {"1=2=3=4=5:1..2", 9}, {"1:1..2=2:1..2<3>4", 15}, {"x<=>y", 3}, {"x==y", 2}, {"x<>y", 2},
             {"x< =y", 3}, {"x=<y", 2}, {"x(", 2}, {"x()", 2}, {"(x", 2}, {"(x))", 3},
-            {" x  +  * y", 7},
+            {" x  +  * y", 7}, {"-'x", 1}, {"x+'y", 2}, {"x*'y", 2}, {"x^'y", 2}, {"('x)", 1}, {"x='y", 2},
+            {"abs'+'x", 4}, {"x:1..'2", 5}, {"x^", 2}, {"x*)", 2}, {"x+=1", 2}, {"(x+)", 3},
         };
         for (Object[] row : rows) {
             checkFault((String) row[0], (Integer) row[1]);
@@ -128,6 +132,19 @@ public final class TextTest {
         DUE.same("accept of " + text, parser.accept(), NotationParser.NO_FORMULA);
         DUE.same("textLength of " + text, parser.textLength(), text.length());
         DUE.same("what stays accepted after " + text, Due.printed(parser, 3), "0");
+    }
+
+    /** Nothing of a text that was checked before stays behind. */
+    private static void checkingOneTextAfterAnother() {
+        Object[][] rows = {{"((x", 3}, {"x", -3}, {"x)", 1}, {"x:1", 3}, {"x=1", -3}, {"x:1..", 5}, {"x", -3},
+            {"1=2=3=4=5=6", 9}, {"1=2=3=4=5", -3}, {"1=2=3=4=5", -3}, {"abs'''", 6}, {"abs'''x", -3},
+            {"abs''''x", 6}, {"'", 0}, {"x", -3}, {"", 0}, {"x'", 1}, {"-", 1}, {"-x", -3}};
+        NotationParser parser = new NotationParser();
+        for (Object[] row : rows) {
+            Due.retype(parser, (String) row[0]);
+            DUE.same("syntaxError of " + row[0], parser.syntaxError(), (Integer) row[1]);
+            DUE.same("syntaxError again of " + row[0], parser.syntaxError(), (Integer) row[1]);
+        }
     }
 
     private static void accepting() {
