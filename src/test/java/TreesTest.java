@@ -13,7 +13,7 @@ public final class TreesTest {
     private static void nodes() {
         Object[][] rows = {{"7", 1}, {"x", 1}, {"((x))", 1}, {"-x", 2}, {"xy", 3}, {"x*y", 3}, {"abs x", 2},
             {"abs'''x", 2}, {"sqr 2x", 4}, {"x^sqr 2y", 6}, {"x=y", 2}, {"x:y..z", 3}, {"-x^2<=3:1..9!=x", 8},
-            {"1/2x+-0".replace("+-", "-"), 7}, {"abcdef", 11}};
+            {"1/2x-0", 7}, {"abcdef", 11}};
         for (Object[] row : rows) {
             NotationParser parser = Due.accepted((String) row[0]);
             for (int reading = 0; reading < 4; reading++) {
