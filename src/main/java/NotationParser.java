@@ -807,9 +807,9 @@ public final class NotationParser {
         private static final int PRODUCT_LEVEL = 4;
         private static final int POWER_LEVEL = 5;
 
+        final Tree tree = new Tree();
         private final boolean tight;
         private final boolean wide;
-        private final Tree tree;
         private final IntStack operands = new IntStack(MAX_NODES);
         private final IntStack operators = new IntStack(MAX_NODES);
         // As many as operators: how many primes each has.
@@ -817,10 +817,9 @@ public final class NotationParser {
         private boolean afterOperand;
         private int joint;
 
-        Builder(boolean tight, boolean wide, Tree tree) {
+        Builder(boolean tight, boolean wide) {
             this.tight = tight;
             this.wide = wide;
-            this.tree = tree;
         }
 
         void build(Tokens tokens) {
@@ -935,15 +934,16 @@ public final class NotationParser {
 
     /** The accepted formula under one reading, with its texts and its last outcome. */
     private static final class Reading {
-        final Tree tree = new Tree();
         final Builder builder;
+        final Tree tree;
         final CharRow printed = new CharRow(MAX_PRINTED);
         final CharRow spoken = new CharRow(MAX_SPOKEN);
         int status;
         long result;
 
         Reading(boolean tight, boolean wide) {
-            builder = new Builder(tight, wide, tree);
+            builder = new Builder(tight, wide);
+            tree = builder.tree;
         }
 
         void judge(Evaluator evaluator, int[] variables) {

@@ -1,8 +1,29 @@
 /** What the tests share: comparing answers with the ones that are due, and typing texts. */
 final class Due {
     private static final int MOST_ROWS = 40;
+    // No text is longer; a length beyond it is wrong and is not read to its end.
+    private static final int MOST_CHARACTERS = 5000;
+    // An object is good for 512 calls; typing a text and accepting it may take 81 of them.
+    private static final int CHARACTERS_OF_ONE_OBJECT = 400;
+    private static final int MOST_SECONDS = 240;
 
     private int wrong;
+
+    Due() {
+        Thread watch = new Thread(Due::endWhatDoesNotEnd);
+        watch.setDaemon(true);
+        watch.start();
+    }
+
+    private static void endWhatDoesNotEnd() {
+        try {
+            Thread.sleep(MOST_SECONDS * 1000L);
+        } catch (InterruptedException stopped) {
+            return;
+        }
+        System.out.println("a call has not ended after " + MOST_SECONDS + " seconds");
+        Runtime.getRuntime().halt(1);
+    }
 
     void same(String call, long got, long due) {
         if (got != due) {
@@ -59,19 +80,47 @@ final class Due {
         type(parser, text);
     }
 
+    /** For texts that the object has calls enough left for. */
     static String printed(NotationParser parser, int reading) {
-        StringBuilder text = new StringBuilder();
-        for (int i = 0; i < parser.printedLength(reading); i++) {
-            text.append((char) parser.printedCharacter(reading, i));
+        StringBuilder row = new StringBuilder();
+        int length = Math.min(parser.printedLength(reading), MOST_CHARACTERS);
+        for (int i = 0; i < length; i++) {
+            row.append((char) parser.printedCharacter(reading, i));
         }
-        return text.toString();
+        return row.toString();
     }
 
+    /** For texts that the object has calls enough left for. */
     static String spoken(NotationParser parser, int reading) {
-        StringBuilder text = new StringBuilder();
-        for (int i = 0; i < parser.speechLength(reading); i++) {
-            text.append((char) parser.speechCharacter(reading, i));
+        StringBuilder row = new StringBuilder();
+        int length = Math.min(parser.speechLength(reading), MOST_CHARACTERS);
+        for (int i = 0; i < length; i++) {
+            row.append((char) parser.speechCharacter(reading, i));
         }
-        return text.toString();
+        return row.toString();
+    }
+
+    /** The printed form of a text, read from as many objects as its length needs. */
+    static String printedOf(String text, int reading) {
+        StringBuilder row = new StringBuilder();
+        NotationParser parser = accepted(text);
+        int length = Math.min(parser.printedLength(reading), MOST_CHARACTERS);
+        for (int i = 0; i < length; i++) {
+            parser = i % CHARACTERS_OF_ONE_OBJECT == 0 ? accepted(text) : parser;
+            row.append((char) parser.printedCharacter(reading, i));
+        }
+        return row.toString();
+    }
+
+    /** The speech text of a text, read from as many objects as its length needs. */
+    static String spokenOf(String text, int reading) {
+        StringBuilder row = new StringBuilder();
+        NotationParser parser = accepted(text);
+        int length = Math.min(parser.speechLength(reading), MOST_CHARACTERS);
+        for (int i = 0; i < length; i++) {
+            parser = i % CHARACTERS_OF_ONE_OBJECT == 0 ? accepted(text) : parser;
+            row.append((char) parser.speechCharacter(reading, i));
+        }
+        return row.toString();
     }
 }

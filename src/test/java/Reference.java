@@ -611,6 +611,10 @@ final class Reference {
         return text.length();
     }
 
+    String text() {
+        return text.toString();
+    }
+
     private static int character(String row, int index) {
         if (index < 0) {
             return -1;
